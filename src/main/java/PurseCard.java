@@ -423,7 +423,7 @@ public final class PurseCard {
     private static final class Sealer {
         static final int BLOCK = 16;
         private static final int ROUNDS = 10;
-        /** Written out, for working out the inverses at every start would be slow; SealTest works them out. */
+        /** Written out, for working out the inverses anew for every object would be slow. */
         private static final int[] S = {
             0x63, 0x7C, 0x77, 0x7B, 0xF2, 0x6B, 0x6F, 0xC5, 0x30, 0x01, 0x67, 0x2B, 0xFE, 0xD7, 0xAB, 0x76,
             0xCA, 0x82, 0xC9, 0x7D, 0xFA, 0x59, 0x47, 0xF0, 0xAD, 0xD4, 0xA2, 0xAF, 0x9C, 0xA4, 0x72, 0xC0,

@@ -5,6 +5,7 @@ public final class KeepTest {
     refusals(check);
     sizes(check);
     allFiles(check);
+    noOtherFile(check);
     whilePaying(check);
     check.end();
   }
@@ -61,6 +62,23 @@ public final class KeepTest {
         String r = record(file, number);
         check.sends(x, "00B2" + Check.number(number, 1) + Check.number(8 * file + 4, 1), 0x9000,
             "70" + Check.number(r.length() / 2, 1) + r);
+      }
+    }
+  }
+
+  /** With all files full, none of the numbers beyond them names one. */
+  private static void noOtherFile(Check check) {
+    for (int file = 0; file < 32; file++) {
+      PurseCard x = new PurseCard(0);
+      for (int n = 0; n < 12; n++) {
+        Check.keep(x, 1 + n % 4, "5A");
+      }
+      open(x);
+      for (int number : new int[] {0, 1, 3, 4, 255}) {
+        boolean there = file >= 1 && file <= 4;
+        int status = !there ? 0x6A82 : number == 1 || number == 3 ? 0x9000 : 0x6A83;
+        String command = "00B2" + Check.number(number, 1) + Check.number(8 * file + 4, 1);
+        check.status(command, Check.send(x, command), status);
       }
     }
   }

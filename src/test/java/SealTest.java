@@ -9,6 +9,7 @@ public final class SealTest {
     published(check);
     edges(check);
     everySize(check);
+    manyKeys(check);
     keys(check);
     check.end();
   }
@@ -57,6 +58,22 @@ public final class SealTest {
         String key = round > 0 ? String.format("%016X%016X", first, second) : Check.NO_KEY;
         check.due("key " + key + ", row " + Check.hex(row), read(x), Check.mac(key, Check.hex(row)));
       }
+    }
+  }
+
+  /** So many keys that the doubling meets first bytes on both sides of its edge. */
+  private static void manyKeys(Check check) {
+    Random random = new Random(2);
+    String whole = "00112233445566778899AABBCCDDEEFF";
+    for (int round = 0; round < 3000; round++) {
+      long first = random.nextLong();
+      long second = random.nextLong();
+      String key = String.format("%016X%016X", first, second);
+      PurseCard x = new PurseCard(0);
+      x.key(first, second);
+      check.due("key " + key + ", empty row", read(x), Check.mac(key, ""));
+      Check.type(x, whole);
+      check.due("key " + key + ", one block", read(x), Check.mac(key, whole));
     }
   }
 
