@@ -41,6 +41,10 @@ final class Check {
     due(command, answer(x), answer);
   }
 
+  boolean allAsDue() {
+    return wrong == 0 && looked > 0;
+  }
+
   void end() {
     System.out.println(looked + " answers looked at, " + wrong + " not as due");
     System.exit(wrong == 0 ? 0 : 1);
@@ -161,6 +165,16 @@ final class Check {
       all[i] = x[i] & 255;
     }
     return hex(all);
+  }
+
+  /** The first byte of L, the bytes 00 enciphered. */
+  static int firstByte(String key) {
+    return encipher(key, new byte[16])[0] & 255;
+  }
+
+  /** The two bits that go out when L is doubled twice, as 0 .. 3. */
+  static int firstBits(String key) {
+    return firstByte(key) >> 6;
   }
 
   private static byte[] encipher(String key, byte[] block) {

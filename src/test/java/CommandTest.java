@@ -1,7 +1,6 @@
 /** Promise 4: send, with every command, every fault, and their order. */
 public final class CommandTest {
-  private static final int NAME = 0x010203;
-  private static final String CHOSEN = "6F178407" + Check.name(NAME) + "A50C5004434152449F38039F0206";
+  private static final int NAME = Cards.NAME;
 
   public static void main(String[] args) {
     Check check = new Check();
@@ -17,24 +16,6 @@ public final class CommandTest {
     get(check);
     rowIsEmptied(check);
     check.end();
-  }
-
-  /** A card at a stage, with 2 records in file 2, amount 7, code 1234. */
-  static PurseCard at(int stage) {
-    PurseCard x = new PurseCard(NAME);
-    x.code(1234);
-    Check.keep(x, 2, "AABB");
-    Check.keep(x, 2, "CC");
-    String[] steps = {Check.select(NAME), Check.ready(7), Check.seal(0x80, 7, 1), Check.seal(0x40, 7, 1, "3030")};
-    for (int i = 0; i < stage; i++) {
-      if (Check.send(x, steps[i]) != Check.FINE) {
-        throw new IllegalStateException(steps[i]);
-      }
-    }
-    if (x.stage() != stage) {
-      throw new IllegalStateException("stage " + stage);
-    }
-    return x;
   }
 
   private static void forms(Check check) {
@@ -73,7 +54,7 @@ public final class CommandTest {
   /** One object for many calls that change nothing, never for more than 512 of them. */
   private static PurseCard fresh(int stage) {
     if (KEPT[stage] == null || USED[stage] >= 18) {
-      KEPT[stage] = at(stage);
+      KEPT[stage] = Cards.at(stage);
       USED[stage] = 0;
     }
     USED[stage]++;
@@ -107,33 +88,33 @@ public final class CommandTest {
     for (int i = 0; i < commands.length; i++) {
       for (int size = 0; size <= 35; size++) {
         String data = size == 0 ? "" : Check.number(size, 1) + "00".repeat(size);
-        int got = Check.send(at(stages[i]), commands[i] + data);
+        int got = Check.send(Cards.at(stages[i]), commands[i] + data);
         check.due(commands[i] + " with " + size, got != 0x6700, size >= least[i] && size <= most[i]);
       }
     }
   }
 
   private static void orderOfFaults(Check check) {
-    check.sends(at(0), "0101FFFF00", 0x6700, "");
-    check.sends(at(0), "01A4FFFF", 0x6E00, "");
-    check.sends(at(0), "80A4FFFF", 0x6D00, "");
-    check.sends(at(0), "00A8FFFF", 0x6D00, "");
-    check.sends(at(0), "80A80001", 0x6A86, "");
-    check.sends(at(0), "80A80100", 0x6A86, "");
-    check.sends(at(0), "80A80000", 0x6985, "");
-    check.sends(at(1), "80A80000", 0x6700, "");
-    check.sends(at(1), "80A80000088206000000000007", 0x6A80, "");
+    check.sends(Cards.at(0), "0101FFFF00", 0x6700, "");
+    check.sends(Cards.at(0), "01A4FFFF", 0x6E00, "");
+    check.sends(Cards.at(0), "80A4FFFF", 0x6D00, "");
+    check.sends(Cards.at(0), "00A8FFFF", 0x6D00, "");
+    check.sends(Cards.at(0), "80A80001", 0x6A86, "");
+    check.sends(Cards.at(0), "80A80100", 0x6A86, "");
+    check.sends(Cards.at(0), "80A80000", 0x6985, "");
+    check.sends(Cards.at(1), "80A80000", 0x6700, "");
+    check.sends(Cards.at(1), "80A80000088206000000000007", 0x6A80, "");
     int[][] stages = {{0x80A8, 1, 1}, {0x00B2, 2, 4}, {0x0020, 2, 2}, {0x80AE, 2, 3}, {0x00A4, 0, 4}, {0x80CA, 0, 4}};
     String[] parameters = {"0000", "0114", "0080", "4000", "0400", "9F36"};
     for (int i = 0; i < stages.length; i++) {
       for (int stage = 0; stage <= 4; stage++) {
         String command = Check.number(stages[i][0], 2) + parameters[i] + "0101";
         boolean fits = stage >= stages[i][1] && stage <= stages[i][2];
-        check.sends(at(stage), command, fits ? 0x6700 : 0x6985, "");
+        check.sends(Cards.at(stage), command, fits ? 0x6700 : 0x6985, "");
       }
     }
     // READY with the last counter: the stage comes before the data
-    PurseCard x = at(1);
+    PurseCard x = Cards.at(1);
     x.advance(65535);
     check.sends(x, "80A80000", 0x6985, "");
     check.sends(x, Check.ready(7), 0x6985, "");
@@ -144,11 +125,12 @@ public final class CommandTest {
   private static void select(Check check) {
     for (int stage = 0; stage <= 4; stage++) {
       for (int size = 5; size <= 7; size++) {
-        PurseCard x = at(stage);
-        check.sends(x, "00A40400" + Check.number(size, 1) + Check.name(NAME).substring(0, 2 * size), 0x9000, CHOSEN);
+        PurseCard x = Cards.at(stage);
+        check.sends(x, "00A40400" + Check.number(size, 1) + Check.name(NAME).substring(0, 2 * size), 0x9000,
+            Cards.CHOSEN);
         check.due("stage()", x.stage(), 1);
       }
-      PurseCard x = at(stage);
+      PurseCard x = Cards.at(stage);
       check.sends(x, "00A4040008" + Check.name(NAME) + "00", 0x6A82, "");
       check.sends(x, "00A4040010" + Check.name(NAME) + "00".repeat(9), 0x6A82, "");
       check.sends(x, "00A4040011" + Check.name(NAME) + "00".repeat(10), 0x6700, "");
@@ -164,7 +146,7 @@ public final class CommandTest {
   }
 
   private static void ready(Check check) {
-    PurseCard x = at(1);
+    PurseCard x = Cards.at(1);
     check.sends(x, "80A80000088305000000000007", 0x6A80, "");
     check.sends(x, "80A80000088206000000000007", 0x6A80, "");
     check.sends(x, "80A80000080683000000000007", 0x6A80, "");
@@ -177,10 +159,10 @@ public final class CommandTest {
     check.due("counter()", x.counter(), 1);
     // the code is not proven any more
     check.sends(x, Check.prove("1234"), 0x9000, "");
-    check.sends(x, Check.select(NAME), 0x9000, CHOSEN);
+    check.sends(x, Check.select(NAME), 0x9000, Cards.CHOSEN);
     check.sends(x, Check.ready(8), 0x9000, "8006180010010200");
-    check.sends(x, Check.seal(0x40, 8, 5), 0x9000, Check.sealed(Check.NO_KEY, 8, 5, 2, 0x80, false));
-    PurseCard y = at(1);
+    check.sends(x, Check.seal(0x40, 8, 5), 0x9000, Check.sealed(Cards.KEY, 8, 5, 2, 0x80, false));
+    PurseCard y = Cards.at(1);
     y.advance(65534);
     check.sends(y, Check.ready(7), 0x9000, "8006180010010200");
     check.due("counter()", y.counter(), 65535);
@@ -188,7 +170,7 @@ public final class CommandTest {
 
   private static void read(Check check) {
     for (int stage = 2; stage <= 4; stage++) {
-      PurseCard x = at(stage);
+      PurseCard x = Cards.at(stage);
       check.sends(x, "00B20114", 0x9000, "7002AABB");
       check.sends(x, "00B20214", 0x9000, "7001CC");
       check.sends(x, "00B20314", 0x6A83, "");
@@ -209,7 +191,7 @@ public final class CommandTest {
   }
 
   private static void prove(Check check) {
-    PurseCard x = at(2);
+    PurseCard x = Cards.at(2);
     String[] wrong = {"0020008008251234FFFFFFFFFF", "0020008008241234FFFFFFFFFE", "0020008008241234FEFFFFFFFF",
         "0020008008241234FFFF00FFFF", Check.prove("A234"), Check.prove("1A34"), Check.prove("12A4"),
         Check.prove("123A"), Check.prove("F234"), Check.prove("123F")};
@@ -233,19 +215,19 @@ public final class CommandTest {
     x.code(1234);
     check.sends(x, Check.prove("1234"), 0x9000, "");
     // a wrong one takes the proof back, one that can't be read does not
-    PurseCard y = at(2);
+    PurseCard y = Cards.at(2);
     Check.send(y, Check.prove("1234"));
     Check.send(y, Check.prove("4321"));
-    check.sends(y, Check.seal(0x80, 7, 5), 0x9000, Check.sealed(Check.NO_KEY, 7, 5, 1, 0x80, false));
-    PurseCard z = at(2);
+    check.sends(y, Check.seal(0x80, 7, 5), 0x9000, Check.sealed(Cards.KEY, 7, 5, 1, 0x80, false));
+    PurseCard z = Cards.at(2);
     Check.send(z, Check.prove("1234"));
     Check.send(z, Check.prove("123A"));
-    check.sends(z, Check.seal(0x80, 7, 5), 0x9000, Check.sealed(Check.NO_KEY, 7, 5, 1, 0x80, true));
+    check.sends(z, Check.seal(0x80, 7, 5), 0x9000, Check.sealed(Cards.KEY, 7, 5, 1, 0x80, true));
   }
 
   private static void get(Check check) {
     for (int stage = 0; stage <= 4; stage++) {
-      PurseCard x = at(stage);
+      PurseCard x = Cards.at(stage);
       x.advance(0xABCD);
       check.sends(x, "80CA9F36", 0x9000, "9F3602ABCD");
       check.sends(x, "80CA9F17", 0x9000, "9F170103");
@@ -253,7 +235,7 @@ public final class CommandTest {
       check.sends(x, "80CA9E36", 0x6A86, "");
       check.due("stage()", x.stage(), stage);
     }
-    PurseCard y = at(2);
+    PurseCard y = Cards.at(2);
     Check.send(y, Check.prove("0000"));
     check.sends(y, "80CA9F17", 0x9000, "9F170102");
   }

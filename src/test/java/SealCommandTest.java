@@ -132,8 +132,8 @@ public final class SealCommandTest {
 
   private static void stages(Check check) {
     for (int stage = 0; stage <= 4; stage++) {
-      check.due("stage()", CommandTest.at(stage).stage(), stage);
-      PurseCard x = CommandTest.at(stage);
+      check.due("stage()", Cards.at(stage).stage(), stage);
+      PurseCard x = Cards.at(stage);
       Check.send(x, Check.select(0x010203));
       check.due("SELECT from stage " + stage, x.stage(), 1);
     }
